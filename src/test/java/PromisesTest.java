@@ -194,6 +194,16 @@ public final class PromisesTest {
         x.own(3, 1);
         due("pipeTold(1, 3)", x.pipeTold(1, 3), 0);
         due("the earlier one stays as it is", x.pipeTold(0, 3), 0);
+        HeronsBench y = new HeronsBench();
+        y.vessel(1, 10);
+        y.pipe(0, -1, 1);
+        y.own(0, 0);
+        y.fill(0, 9);
+        due("PIPE 0 of a SIPHON does not run", y.pipeTold(0, 4), 0);
+        due("REST", y.next(0), -1);
+        y.fill(0, 1);
+        due("PIPE 0 of a SIPHON runs", y.pipeTold(0, 4), 1);
+        due("next(0)", y.next(0), 10);
     }
 
     private static void tips() {
@@ -445,6 +455,34 @@ public final class PromisesTest {
         due("next(0)", x.next(0), -1);
         done(x, "go(1)", x.go(1), 0);
         fraction("now", x.now(0), x.now(1), 1, 1);
+        // the grain 10000 is gone to: a FLOAT full at 1/80 slows the other's rise from 128 to 125
+        HeronsBench y = new HeronsBench();
+        y.vessel(3, 1);
+        y.vessel(1, 2);
+        y.pipe(-1, 1, 3);
+        y.own(0, 0);
+        pipes(y, -1, 0, 80);
+        pipes(y, -1, 1, 125);
+        done(y, "GRAIN 10000", y.go(1), 2);
+        event(y, 0, 4, 0, 1, 80);
+        event(y, 1, 2, 1, 157, 10000);
+        // and 10001 is not
+        HeronsBench z = new HeronsBench();
+        z.vessel(0, 1);
+        z.vessel(0, 1);
+        z.over(0, 1);
+        pipes(z, -1, 0, 137);
+        pipes(z, 1, -1, 64);
+        refused(z, "GRAIN 10001", z.go(1), 4);
+        fraction("now", z.now(0), z.now(1), 1, 137);
+        fraction("next", z.next(0), z.next(1), 210, 10001);
+    }
+
+    /** As many PIPES as are needed for that much. */
+    private static void pipes(HeronsBench x, int from, int to, int all) {
+        for (int left = all; left > 0; left -= 20) {
+            x.pipe(from, to, Math.min(left, 20));
+        }
     }
 
     private static void now() {
@@ -491,6 +529,20 @@ public final class PromisesTest {
         z.fill(0, 1000);
         due("the DRAIN took 3 in all", z.sum(4), 1);
         due("now(2)", z.now(2), 1);
+        // what the SPRING gave and the DRAIN took counts, too: a PIPE over a brim is SHUT at 1/3
+        HeronsBench w = new HeronsBench();
+        w.vessel(3, 1);
+        w.vessel(0, 10);
+        w.pipe(-1, 0, 3);
+        w.pipe(-1, 1, 1);
+        w.own(0, 1);
+        w.fill(1, 10);
+        due("go(1)", w.go(1), 1);
+        fraction("now", w.now(0), w.now(1), 1, 1);
+        due("level(0, 1)", w.level(0, 1), 1);
+        fraction("spring", w.sum(0), w.sum(1), 10, 3);
+        fraction("drain", w.sum(3), w.sum(4), 7, 3);
+        due("now(2)", w.now(2), 3);
     }
 
     private static void next() {
@@ -533,6 +585,20 @@ public final class PromisesTest {
         z.go(7);
         z.own(0, 1);
         due("its OWN is OPEN: not LOW, but empty", z.next(0), 12);
+        // an act above LOW opens nothing, at LOW the FLOAT opens
+        HeronsBench w = new HeronsBench();
+        w.vessel(3, 10);
+        w.pipe(-1, 0, 2);
+        w.pipe(0, -1, 1);
+        w.own(0, 0);
+        w.marks(0, 8, 3);
+        due("go(12)", w.go(12), 1);
+        due("level(0)", w.level(0, 0), 4);
+        w.amount(1, 1);
+        due("not yet", w.count(2), 1);
+        due("LOW", w.next(0), 13);
+        due("go(13)", w.go(13), 1);
+        event(w, 1, 5, 0, 13, 1);
     }
 
     private static void level() {
@@ -775,6 +841,26 @@ public final class PromisesTest {
         due("sum(0)", y.sum(0), 2800000);
         due("sum(3)", y.sum(3), 2799800);
         due("sum(5)", y.sum(5), 200);
+        // eight VESSELS one over the other, each with a PIPE of 1 to the DRAIN
+        HeronsBench z = new HeronsBench();
+        for (int v = 0; v < 8; v++) {
+            z.vessel(0, 5);
+        }
+        for (int v = 0; v < 7; v++) {
+            z.over(v, v + 1);
+        }
+        z.pipe(-1, 0, 15);
+        for (int v = 0; v < 8; v++) {
+            z.pipe(v, -1, 1);
+        }
+        z.fill(0, 41);
+        due("go(100)", z.go(100), 0);
+        due("sum(0)", z.sum(0), 1500);
+        due("sum(2)", z.sum(2), 41);
+        fraction("inside", z.sum(5), z.sum(6), 40, 1);
+        fraction("drain", z.sum(3), z.sum(4), 1501, 1);
+        due("flood(7)", z.flood(7), 7);
+        due("rate(7)", z.rate(7), 0);
     }
 
     private static void round() {
@@ -828,6 +914,42 @@ public final class PromisesTest {
         due("round(0)", y.round(0), 1);
         fraction("BEGIN", y.round(1), y.round(2), 6, 1);
         fraction("SPAN", y.round(3), y.round(4), 8, 1);
+        upAndDown(1);
+        upAndDown(3);
+        // from a SIPHON on that is SIPHONING now
+        HeronsBench z = new HeronsBench();
+        z.vessel(1, 10);
+        z.pipe(-1, 0, 2);
+        z.pipe(0, -1, 4);
+        z.own(0, 1);
+        z.marks(0, 6, 0);
+        z.fill(0, 10);
+        due("round(0)", z.round(0), 1);
+        fraction("BEGIN", z.round(1), z.round(2), 5, 1);
+        fraction("SPAN", z.round(3), z.round(4), 6, 1);
+    }
+
+    /**
+     * A SIPHON or FLOAT that goes from 0 to 6 and back in 6 units of time, and a TIPPER that tips each 4th:
+     * from 1 to 5 all LEVELS come again, but on the way down, which is another state.
+     */
+    private static void upAndDown(int kind) {
+        HeronsBench x = new HeronsBench();
+        x.vessel(kind, 10);
+        x.vessel(2, 4);
+        x.pipe(-1, 0, kind == 1 ? 2 : 4);
+        x.pipe(0, -1, kind == 1 ? 4 : 2);
+        x.own(0, kind == 1 ? 1 : 0);
+        x.marks(0, 6, 0);
+        x.go(1);
+        x.pipe(-1, 1, 1);
+        due("round(0)", x.round(0), 1);
+        fraction("BEGIN", x.round(1), x.round(2), 1, 1);
+        fraction("SPAN", x.round(3), x.round(4), 12, 1);
+        x.go(5);
+        due("level(0)", x.level(0, 0), 2);
+        fraction("BEGIN on the way down", x.round(1), x.round(2), 5, 1);
+        fraction("SPAN", x.round(3), x.round(4), 12, 1);
     }
 
     private static HeronsBench twoTippers(int brim) {
@@ -898,6 +1020,12 @@ public final class PromisesTest {
         due("the other one opened it", w.pipeTold(0, 3), 1);
         refused(w, "no change comes", w.tune(0, 1, 5, 0, 1), 3);
         due("count(2)", w.count(2), 2);
+        HeronsBench last = new HeronsBench();
+        last.vessel(3, 20);
+        last.go(9990);
+        last.pipe(-1, 0, 1);
+        last.own(0, 0);
+        done(last, "10000 at most", last.tune(0, 1, 20, 0, 10000), 2);
         HeronsBench timely = tuneMoments(60);
         done(timely, "60 moments", timely.tune(0, 1, 1, 1, 60), 1);
         HeronsBench late = tuneMoments(61);

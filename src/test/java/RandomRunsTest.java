@@ -34,21 +34,30 @@ public final class RandomRunsTest {
         return least + random.nextInt(most - least + 1);
     }
 
+    /** Around the edges, at times as far beyond them as an int goes. */
+    private int edge(int least, int most) {
+        return switch (random.nextInt(8)) {
+            case 0 -> Integer.MIN_VALUE;
+            case 1 -> Integer.MAX_VALUE;
+            default -> from(least, most);
+        };
+    }
+
     private boolean rarely() {
         return random.nextInt(12) == 0;
     }
 
     private int aVessel() {
-        return rarely() ? from(-2, 9) : from(0, Math.max(0, plain.vessels.size() - 1));
+        return rarely() ? edge(-2, 9) : from(0, Math.max(0, plain.vessels.size() - 1));
     }
 
     private int aPipe() {
-        return rarely() ? from(-2, 15) : from(0, Math.max(0, plain.pipes.size() - 1));
+        return rarely() ? edge(-2, 15) : from(0, Math.max(0, plain.pipes.size() - 1));
     }
 
     private int below(int vessel) {
         int last = plain.vessels.size() - 1;
-        return rarely() ? from(-2, 9) : vessel >= last || random.nextInt(4) == 0 ? -1 : from(Math.max(0, vessel + 1), last);
+        return rarely() ? edge(-2, 9) : vessel >= last || random.nextInt(4) == 0 ? -1 : from(Math.max(0, vessel + 1), last);
     }
 
     private void same(String call, long got, long want) {
@@ -84,15 +93,15 @@ public final class RandomRunsTest {
     }
 
     private void doVessel(boolean fine) {
-        int kind = rarely() ? from(-1, 5) : from(0, 4);
-        int brim = rarely() ? from(-1, 202) : fine ? from(1, 12) : from(1, 200);
+        int kind = rarely() ? edge(-1, 5) : from(0, 4);
+        int brim = rarely() ? edge(-1, 202) : fine ? from(1, 12) : from(1, 200);
         same("vessel(" + kind + ", " + brim + ")", bench.vessel(kind, brim), plain.vessel(kind, brim));
     }
 
     private void doPipe(boolean fine) {
         int v = from(-1, plain.vessels.size() - 1);
         int to = below(v);
-        int amount = rarely() ? from(-1, 22) : fine ? from(1, 4) : from(1, 20);
+        int amount = rarely() ? edge(-1, 22) : fine ? from(1, 4) : from(1, 20);
         same("pipe(" + v + ", " + to + ", " + amount + ")", bench.pipe(v, to, amount), plain.pipe(v, to, amount));
     }
 
@@ -102,8 +111,8 @@ public final class RandomRunsTest {
         switch (random.nextInt(5)) {
             case 0 -> {
                 int most = v >= 0 && v < plain.vessels.size() ? plain.vessels.get(v).brim : 10;
-                int high = rarely() ? from(-1, most + 1) : from(1, most);
-                int low = rarely() ? from(-1, high + 1) : from(0, Math.max(0, high - 1));
+                int high = rarely() ? edge(-1, most + 1) : from(1, most);
+                int low = rarely() ? edge(-1, most + 1) : from(0, Math.max(1, Math.min(most, high)) - 1);
                 same("marks(" + v + ", " + high + ", " + low + ")", bench.marks(v, high, low), plain.marks(v, high, low));
             }
             case 1, 2 -> same("own(" + v + ", " + p + ")", bench.own(v, p), plain.own(v, p));
@@ -125,7 +134,7 @@ public final class RandomRunsTest {
             case 2 -> doBuild();
             case 3, 4 -> {
                 int v = aVessel();
-                int n = rarely() ? from(-1, 1002) : from(1, 30);
+                int n = rarely() ? edge(-1, 1002) : from(1, 30);
                 same("fill(" + v + ", " + n + ")", bench.fill(v, n), plain.fill(v, n));
             }
             case 5 -> {
@@ -135,25 +144,25 @@ public final class RandomRunsTest {
             }
             case 6 -> {
                 int p = aPipe();
-                int n = rarely() ? from(-1, 22) : from(1, 20);
+                int n = rarely() ? edge(-1, 22) : from(1, 20);
                 same("amount(" + p + ", " + n + ")", bench.amount(p, n), plain.amount(p, n));
             }
             case 7, 8, 9 -> {
                 int here = plain.now(0) / plain.now(1);
-                int until = rarely() ? from(-1, 10002) : here + from(0, random.nextInt(5) == 0 ? 400 : 20);
+                int until = rarely() ? edge(-1, 10002) : here + from(0, random.nextInt(5) == 0 ? 400 : 20);
                 same("go(" + until + ")", bench.go(until), plain.go(until));
             }
             case 10, 11 -> doTune();
             case 12 -> {
                 int v = aVessel();
-                int act = rarely() ? from(-1, 4) : from(0, 3);
+                int act = rarely() ? edge(-1, 4) : from(0, 3);
                 int x = random.nextBoolean() ? random.nextInt() : from(-20, 20);
                 same("act(" + v + ", " + act + ", " + x + ")", bench.act(v, act, x), plain.act(v, act, x));
             }
             default -> {
-                int what = rarely() ? from(-1, 7) : from(0, 6);
-                int n = rarely() ? from(-102, 102) : from(-9, 9);
-                int k = rarely() ? from(-102, 102) : from(-9, 9);
+                int what = rarely() ? edge(-1, 7) : from(0, 6);
+                int n = rarely() ? edge(-102, 102) : from(-9, 9);
+                int k = rarely() ? edge(-102, 102) : from(-9, 9);
                 same("forge(" + what + ", " + n + ", " + k + ")", bench.forge(what, n, k), plain.forge(what, n, k));
             }
         }
@@ -161,15 +170,15 @@ public final class RandomRunsTest {
 
     private void doTune() {
         int p = aPipe();
-        int low = rarely() ? from(-1, 22) : from(1, 8);
-        int high = rarely() ? from(-1, 22) : Math.max(low, from(1, 20));
+        int low = rarely() ? edge(-1, 22) : from(1, 8);
+        int high = rarely() ? edge(-1, 22) : Math.max(low, from(1, 20));
         int v = aVessel();
         for (PlainBench.Vessel each : plain.vessels) {
             if (each.floats() && random.nextBoolean()) {
                 v = each.number;
             }
         }
-        int when = rarely() ? from(-1, 10002) : aShut(p, Math.min(high, 20), v);
+        int when = rarely() ? edge(-1, 10002) : aShut(p, Math.min(high, 20), v);
         same("tune(" + p + ", " + low + ", " + high + ", " + v + ", " + when + ")",
                 bench.tune(p, low, high, v, when), plain.tune(p, low, high, v, when));
     }
