@@ -1,3 +1,7 @@
+import java.lang.reflect.Constructor;
+import java.lang.reflect.Field;
+import java.lang.reflect.Method;
+import java.lang.reflect.Modifier;
 import java.nio.file.Files;
 import java.nio.file.Path;
 import java.util.ArrayList;
@@ -5,13 +9,13 @@ import java.util.List;
 import java.util.regex.Matcher;
 import java.util.regex.Pattern;
 
-/** The rules of LANGUAGE.md that can be seen from the text of the class. */
+/** The rules of LANGUAGE.md that can be seen from the text of the class, or from the class when it is loaded. */
 public final class LanguageTest {
     private static final String[] FORBIDDEN = {
         "\\bthrow\\b", "\\bthrows\\b", "\\btry\\b", "\\bcatch\\b", "\\bfinally\\b", "\\bsynchronized\\b",
         "\\bassert\\b", "\\bimport\\b", "\\bpackage\\b", "\\bprotected\\b", "->", "::", "@", "\\bstatic\\s*\\{",
-        "\\bObject\\b", "\\bSystem\\.(?!arraycopy)", "\\bExact\\b", "\\bThread\\b", "\\bRandom\\b", "\\bhashCode\\b",
-        "\\btoString\\b", "\\bwhile\\s*\\(\\s*true"};
+        "\\bObject\\b", "\\bSystem\\.(?!arraycopy)", "Exact\\b", "\\bThread\\b", "\\bRandom\\b", "\\bhashCode\\b",
+        "\\btoString\\b", "\\bequals\\b", "\\bwhile\\s*\\(\\s*true", "\\bfor\\s*\\(\\s*;", "\\bnative\\b", "\\bvar\\b"};
     private static final String[] FACE = {
         "public static final int NONE = -1;", "public HeronsBench()", "public int vessel(int kind, int brim)",
         "public int marks(int vessel, int high, int low)", "public int own(int vessel, int pipe)",
@@ -46,6 +50,12 @@ public final class LanguageTest {
         checkFace(code);
         checkMethods(code);
         checkClasses(code);
+        checkObjectsMade(code);
+        checkMembers();
+        checkFields(HeronsBench.class);
+        for (Class<?> inside : HeronsBench.class.getDeclaredClasses()) {
+            checkInside(inside);
+        }
         System.out.println("the language: " + wrong + " faults");
         if (wrong != 0) {
             System.exit(1);
@@ -98,5 +108,84 @@ public final class LanguageTest {
         if (classes > 12) {
             fault(classes + " classes");
         }
+    }
+
+    /** Rule 12 and the room of a run: objects are made where a field or a constructor stands, by no later call. */
+    private static void checkObjectsMade(String code) {
+        for (String line : code.split("\n")) {
+            boolean field = line.matches("\\s*(private )?final [\\w\\[\\]]+ \\w+ = new [^;]*;");
+            boolean inConstructor = line.matches("        \\w+(\\[\\w+\\])? = new [^;]*;");
+            if (line.matches(".*\\bnew\\b.*") && !field && !inConstructor) {
+                fault("an object is made elsewhere: " + line.trim());
+            }
+        }
+        String body = code.substring(code.indexOf("public HeronsBench()"), code.indexOf("public int vessel("));
+        int inConstructor = code.split("\n        \\w+(\\[\\w+\\])? = new ", -1).length;
+        if (body.split("\n        \\w+(\\[\\w+\\])? = new ", -1).length != inConstructor) {
+            fault("an object is made in a method that is no constructor");
+        }
+    }
+
+    /** Rule 1: what is not public is private. */
+    private static void checkMembers() {
+        if (!Modifier.isFinal(HeronsBench.class.getModifiers()) || !Modifier.isPublic(HeronsBench.class.getModifiers())) {
+            fault("the class is not public and final");
+        }
+        int shown = 0;
+        for (Method method : HeronsBench.class.getDeclaredMethods()) {
+            shown += shown(method.getModifiers(), method.getName());
+        }
+        for (Constructor<?> constructor : HeronsBench.class.getDeclaredConstructors()) {
+            shown += shown(constructor.getModifiers(), "a constructor");
+        }
+        for (Field field : HeronsBench.class.getDeclaredFields()) {
+            shown += shown(field.getModifiers(), field.getName());
+        }
+        if (shown != FACE.length) {
+            fault(shown + " members are shown, not " + FACE.length);
+        }
+    }
+
+    private static int shown(int modifiers, String name) {
+        if (!Modifier.isPublic(modifiers) && !Modifier.isPrivate(modifiers)) {
+            fault(name + " is neither public nor private");
+        }
+        return Modifier.isPublic(modifiers) ? 1 : 0;
+    }
+
+    private static void checkInside(Class<?> inside) {
+        int modifiers = inside.getModifiers();
+        boolean hidden = !Modifier.isPublic(modifiers) && !Modifier.isProtected(modifiers);
+        if (!hidden || !Modifier.isStatic(modifiers)) {
+            fault(inside.getSimpleName() + " is shown or not static");
+        }
+        if (inside.getDeclaredClasses().length != 0) {
+            fault(inside.getSimpleName() + " has classes inside");
+        }
+        checkFields(inside);
+    }
+
+    /** Rule 5: static fields are final, and constants; rule 11: some twenty fields beside them; rule 3: plain types. */
+    private static void checkFields(Class<?> owner) {
+        int own = 0;
+        for (Field field : owner.getDeclaredFields()) {
+            Class<?> type = field.getType();
+            if (!Modifier.isStatic(field.getModifiers())) {
+                own++;
+            } else if (!Modifier.isFinal(field.getModifiers()) || type != int.class && type != int[].class) {
+                fault(field.getName() + " is static, and no constant number or row of numbers");
+            }
+            if (!isAllowed(type) && !(type.isArray() && isAllowed(type.getComponentType())) && type != int[][].class
+                    && type != long[][].class) {
+                fault(field.getName() + " has a type that is not allowed");
+            }
+        }
+        if (own > 20) {
+            fault(owner.getSimpleName() + " has " + own + " fields");
+        }
+    }
+
+    private static boolean isAllowed(Class<?> type) {
+        return type.isPrimitive() || !type.isArray() && type.getEnclosingClass() == HeronsBench.class;
     }
 }
